@@ -1544,14 +1544,15 @@ public final class FilterGuard {
         private void call(int number) {
             long outcome = 0;
             int newKind = NUMBER;
+            int place = number <= TAKE ? foundPlace() : -1;
             switch (number) {
                 case LOOK:
-                    outcome = look();
+                    outcome = place < 0 ? 0 : Memory.valueAddress(place);
                     newKind = FIRST_MAYBE + looks;
                     looks++;
                     break;
-                case PUT: outcome = put(); break;
-                case TAKE: outcome = take(); break;
+                case PUT: outcome = put(place); break;
+                case TAKE: outcome = take(place); break;
                 case NOTE: note(register[1]); break;
                 default:
                     chance = chance * 6364136223846793005L + 1442695040888963407L;
@@ -1564,7 +1565,7 @@ public final class FilterGuard {
             set(0, outcome, newKind);
         }
 
-        /** The PLACE of the MAP in register 1 with the key at 2, or -1. */
+        /** The PLACE of the MAP in register 1 with the key at 2, or -1; that key is sought then. */
         private int foundPlace() {
             int map = (int) register[1];
             if (!within(map, 0, memory.maps.size - 1)) {
@@ -1574,17 +1575,12 @@ public final class FilterGuard {
             return memory.maps.found(map);
         }
 
-        private long look() {
-            int place = foundPlace();
-            return place < 0 ? 0 : Memory.valueAddress(place);
-        }
-
-        private long put() {
+        private long put(int found) {
             int map = (int) register[1];
-            int place = foundPlace();
-            if (place < 0 && within(map, 0, memory.maps.size - 1)) {
-                place = memory.maps.takenUp(map);
+            if (!within(map, 0, memory.maps.size - 1)) {
+                return 1;
             }
+            int place = found >= 0 ? found : memory.maps.takenUp(map);
             if (place < 0) {
                 return 1;
             }
@@ -1594,12 +1590,11 @@ public final class FilterGuard {
             return 0;
         }
 
-        private long take() {
-            int place = foundPlace();
-            if (place < 0) {
+        private long take(int found) {
+            if (found < 0) {
                 return 1;
             }
-            memory.maps.empty(place);
+            memory.maps.empty(found);
             return 0;
         }
 

@@ -85,8 +85,8 @@ public final class FilterGuard {
     private static final int RUNS_OFF = 7;
     private static final int TOO_MUCH = 8;
 
-    private static final long LEAST = Long.MIN_VALUE;
-    private static final long GREATEST = Long.MAX_VALUE;
+    private static final long LEAST = 0x8000000000000000L;
+    private static final long GREATEST = 0x7FFFFFFFFFFFFFFFL;
     private static final long LOW_32 = 0xFFFFFFFFL;
     private static final long FARTHEST = 4096L;
     private static final int ENDED = -1;

@@ -14,6 +14,8 @@ public final class FaultTest {
         manySteps();
         manySides();
         ways();
+        sidesForThemselves();
+        nothingIsLeft();
         Asked.end();
     }
 
@@ -36,9 +38,9 @@ public final class FaultTest {
         row().add(103, 10, 7, 100, 0).fails("STORE of NONE, outside", 2, 0);
         row().add(104, 7, 0, 0, 0).fails("STORE of imm at NONE", 2, 0);
         row().exit().fails("EXIT of NONE", 2, 0);
-        row().call(5).copy(6, 1).fails("registers 1 .. 5 are NONE behind a CALL", 2, 1);
-        row().call(5).copy(6, 2).fails("registers 1 .. 5 are NONE behind a CALL", 2, 1);
-        row().move(5, 1).call(5).copy(6, 5).fails("registers 1 .. 5 are NONE behind a CALL", 2, 2);
+        for (int r = 1; r <= 5; r++) {
+            row().move(r, 1).call(5).copy(6, r).fails("NONE behind a CALL: register " + r, 2, 2);
+        }
         row().move(6, 4).call(5).copy(0, 6).exit().runs("6 stays", 4);
     }
 
@@ -261,5 +263,63 @@ public final class FaultTest {
         Asked.due("what waits: greatest", 2, kept.known(6, 7, 1));
         Asked.due("what waits: only the next side is there", 0, kept.known(4, 6, 0));
         Asked.due("what waits: only the next side is there", 9, kept.known(4, 6, 1));
+    }
+
+    /** What one side does is not KNOWN on the other one; what was before is. */
+    private static void sidesForThemselves() {
+        row().call(5).copy(6, 0).add(85, 0, 0, 3, 9).add(104, 10, 0, -1, 4).move(0, 0).exit()
+            .add(96, 0, 10, -1, 0).exit().fails("DATA of the next side", 5, 6);
+        row().call(5).copy(6, 0).add(85, 0, 0, 3, 9).add(107, 10, 0, -8, 4).move(0, 0).exit()
+            .add(99, 0, 10, -8, 0).exit().fails("HELD on the next side", 5, 6);
+        row().call(5).copy(6, 0).add(85, 0, 0, 2, 9).move(7, 1).exit().copy(0, 7).exit()
+            .fails("a register of the next side", 2, 5);
+        row().call(5).copy(6, 0).add(104, 10, 0, -1, 4).add(107, 10, 0, -16, 5).add(85, 0, 0, 3, 9)
+            .add(103, 10, 10, -8, 0).add(103, 10, 10, -16, 0).exit()
+            .add(96, 0, 10, -1, 0).add(99, 7, 10, -16, 0).add(1, 0, 7, 0, 0).exit().runs("what was before", 9);
+        // Two LOOKS, then a side that waits: there, too, each has its own tag and its own map.
+        Asked.Row row = row().map(1, 1, 1).map(1, 8, 1).add(104, 10, 0, -1, 1).copy(9, 10).add(17, 9, 0, 0, -1)
+            .copy(2, 9).add(114, 1, 0, 0, 0).call(1).copy(7, 0)
+            .copy(2, 9).add(114, 1, 0, 0, 1).call(1).copy(8, 0).call(5).add(85, 0, 0, 2, 9).copy(7, 8).exit();
+        int at = row.size();
+        row.add(81, 8, 0, 1, 0).add(99, 0, 8, 0, 0).exit();
+        row.passes("on the side that waited");
+        row.steps.get(at + 1)[2] = 7;
+        row.fails("on the side that waited, the other LOOK", 3, at + 1);
+        row.steps.get(at)[1] = 7;
+        row.fails("on the side that waited, the other map", 4, at + 1);
+    }
+
+    /** Nothing of one CHECKING is left in the next one of the same object. */
+    private static void nothingIsLeft() {
+        FilterGuard guard = row().call(5).copy(6, 0).add(104, 10, 0, -1, 4).add(107, 10, 0, -16, 5).move(7, 3)
+            .add(91, 6, 0, 0, 1).add(91, 6, 0, 0, 2).copy(0, 9).exit().fails("first", 2, 7);
+        guard.clear();
+        row().move(0, 3).add(64, 0, 0, 0, 0).exit().giveTo(guard);
+        Asked.due("no side waits still", 0, guard.check());
+        Asked.due("three are gone", 3, guard.count(7));
+        for (int i = 0; i < 3; i++) {
+            Asked.due("gone once", 1, guard.known(i, 0, 3));
+        }
+        Asked.due("no NUMBER of before", 0, guard.known(0, 7, 2));
+        Asked.due("no NUMBER of before", 0, guard.known(0, 6, 1));
+        guard.clear();
+        row().add(96, 0, 10, -1, 0).exit().giveTo(guard);
+        Asked.due("no DATA of before", 5, guard.check());
+        guard.clear();
+        row().add(99, 0, 10, -16, 0).exit().giveTo(guard);
+        Asked.due("nothing HELD of before", 5, guard.check());
+        guard.clear();
+        row().copy(7, 1).add(17, 7, 0, 0, 4).move(0, 0).add(69, 7, 2, 1, 0).copy(0, 9).exit().giveTo(guard);
+        Asked.due("a length", 2, guard.check());
+        guard.clear();
+        row().add(96, 0, 1, 0, 0).exit().giveTo(guard);
+        Asked.due("no length of before", 4, guard.check());
+        guard.clear();
+        row().move(0, 1).add(17, 0, 0, 0, 1).giveTo(guard);
+        Asked.due("without an end", 7, guard.check());
+        guard.add(113, 0, 0, 0, 0);
+        Asked.due("with one", 0, guard.check());
+        Asked.due("gone once, not twice", 1, guard.known(0, 0, 3));
+        Asked.due("gone once, not twice", 1, guard.known(1, 0, 3));
     }
 }

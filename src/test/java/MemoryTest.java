@@ -16,6 +16,7 @@ public final class MemoryTest {
         puttingAndTaking();
         fullMaps();
         sizes();
+        eachMapForItself();
         Asked.end();
     }
 
@@ -296,5 +297,39 @@ public final class MemoryTest {
         Asked.due("its last byte", 0, guard.place(3, 15, 71));
         Asked.missing("behind it", () -> guard.place(3, 15, 72));
         Asked.due("other maps are empty", 0, guard.place(2, 2, -1));
+    }
+
+    /** Keys and values are as long as those of the map that is named. */
+    private static void eachMapForItself() {
+        for (int map = 0; map < 4; map++) {
+            int key = 2 * map + 1;
+            int value = 5 * map + 4;
+            Asked.Row row = row().map(1, 4, 1).map(3, 9, 1).map(5, 14, 1).map(7, 19, 1);
+            for (int b = 1; b <= key; b++) {
+                row.add(104, 10, 0, -b, b);
+            }
+            for (int b = 0; b < value; b++) {
+                row.add(104, 10, 0, -64 + b, 40 + b);
+            }
+            row.copy(2, 10).add(17, 2, 0, 0, -key).copy(3, 10).add(17, 3, 0, 0, -64).add(114, 1, 0, 0, map);
+            int put = row.size();
+            row.call(2).copy(2, 10).add(17, 2, 0, 0, -key).add(114, 1, 0, 0, map).call(1).add(103, 10, 0, -40, 0)
+                .add(82, 0, 0, 1, 0).exit().add(99, 6, 10, -40, 0).add(17, 6, 0, 0, 2);
+            int load = row.size();
+            row.add(96, 0, 6, value - 3, 0).exit();
+            FilterGuard guard = row.runs("map " + map, 40 + value - 1);
+            Asked.due("key of map " + map, key, guard.place(map, 0, 0));
+            Asked.due("key's last of map " + map, 1, guard.place(map, 0, key - 1));
+            Asked.due("value of map " + map, 40, guard.place(map, 0, key));
+            Asked.due("value's last of map " + map, 40 + value - 1, guard.place(map, 0, key + value - 1));
+            row.steps.get(load)[3]++;
+            row.fails("behind the value of map " + map, 4, load);
+            row.steps.get(load)[3]--;
+            row.steps.get(put - 4)[4]++;
+            row.fails("behind the key of map " + map, 4, put);
+            row.steps.get(put - 4)[4] -= 2;
+            row.steps.get(put - 2)[4]++;
+            row.fails("not all of the value of map " + map, 5, put);
+        }
     }
 }

@@ -445,8 +445,8 @@ public final class FilterGuard {
                 case ADD: return x + y;
                 case SUB: return x - y;
                 case MUL: return x * y;
-                case DIV: return y == 0 ? 0 : quotient(x, y);
-                case MOD: return y == 0 ? x : x - quotient(x, y) * y;
+                case DIV: return quotient(x, y);
+                case MOD: return x - quotient(x, y) * y;
                 case AND: return x & y;
                 case OR: return x | y;
                 case XOR: return x ^ y;
@@ -462,13 +462,13 @@ public final class FilterGuard {
             return (int) b & ((sort & NARROW) != 0 ? 31 : 63);
         }
 
-        /** x / y without sign; y isn't 0. */
+        /** x / y without sign; 0 if y is 0, so that MOD by 0 leaves x. */
         private static long quotient(long x, long y) {
-            if (y < 0) {
-                return x + LEAST < y + LEAST ? 0 : 1;
+            if (y <= 0) {
+                return y == 0 || x + LEAST < y + LEAST ? 0 : 1;
             }
-            if (y == 0 || x >= 0) {
-                return y == 0 ? 0 : x / y;
+            if (x >= 0) {
+                return x / y;
             }
             long half = ((x >>> 1) / y) << 1;
             long rest = x - half * y;
@@ -1361,7 +1361,7 @@ public final class FilterGuard {
             return address >= begin && address < begin + length ? (int) (address - begin) : -1;
         }
 
-        /** The first of an eight of the STACK that stands whole at the address: its number, or -1. */
+        /** The number of the STACK's eight that begins at the address, or -1. */
         static int eightAt(long address) {
             int i = indexFrom(STACK_AT, STACK_BYTES, address);
             return i >= 0 && i % 8 == 0 ? i / 8 : -1;

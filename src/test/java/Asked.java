@@ -1,3 +1,6 @@
+import java.io.IOException;
+import java.nio.file.Files;
+import java.nio.file.Path;
 import java.util.ArrayList;
 import java.util.List;
 
@@ -9,6 +12,8 @@ final class Asked {
 
     private static int asked = 0;
     private static int wrong = 0;
+    private static String document = null;
+    private static String said = "";
 
     private Asked() {
     }
@@ -18,24 +23,44 @@ final class Asked {
         long answer();
     }
 
+    /** What follows is a test of this sentence, which must stand in the document. */
+    static void says(String sentence) {
+        said = "\"" + sentence + "\": ";
+        if (document == null) {
+            document = readDocument();
+        }
+        due("the document says so", 1, document.isEmpty() || document.contains(sentence) ? 1 : 0);
+    }
+
+    private static String readDocument() {
+        try {
+            return Files.readString(Path.of("../shared/DOC.md")).replaceAll("\\s+", " ");
+        } catch (IOException e) {
+            System.out.println("no document is here: sentences aren't looked up");
+            return "";
+        }
+    }
+
     static void due(String what, long want, long got) {
         asked++;
         if (want != got) {
-            wrong++;
-            System.out.println(what + " answered " + got + ", due is " + want);
+            tellWrong(what + " answered " + got + ", due is " + want);
         }
+    }
+
+    private static void tellWrong(String what) {
+        wrong++;
+        System.out.println(said + what);
     }
 
     static void dueThrow(String what, Class<? extends RuntimeException> want, Call call) {
         asked++;
         try {
             long got = call.answer();
-            wrong++;
-            System.out.println(what + " answered " + got + ", due is " + want.getSimpleName());
+            tellWrong(what + " answered " + got + ", due is " + want.getSimpleName());
         } catch (RuntimeException e) {
             if (e.getClass() != want) {
-                wrong++;
-                System.out.println(what + " threw " + e + ", due is " + want.getSimpleName());
+                tellWrong(what + " threw " + e + ", due is " + want.getSimpleName());
             }
         }
     }
@@ -50,6 +75,44 @@ final class Asked {
 
     static void missing(String what, Call call) {
         dueThrow(what, java.util.NoSuchElementException.class, call);
+    }
+
+    /** The call throws just this, and no other call answers otherwise behind it. */
+    static void changesNothing(String what, FilterGuard guard, Class<? extends RuntimeException> want, Call call) {
+        String before = seen(guard);
+        dueThrow(what, want, call);
+        String after = seen(guard);
+        if (!before.equals(after)) {
+            tellWrong(what + " changed " + before + " to " + after);
+        }
+    }
+
+    /** What the calls that change nothing answer, some 150 of them at most. */
+    private static String seen(FilterGuard guard) {
+        StringBuilder seen = new StringBuilder("counts");
+        for (int what = 0; what <= 9; what++) {
+            seen.append(' ').append(guard.count(what));
+        }
+        seen.append(", letters");
+        int length = guard.count(2);
+        for (int i = 0; i < length; i += length > 40 ? 37 : 3) {
+            seen.append(' ').append(guard.letter(i));
+        }
+        seen.append(length > 0 ? " " + guard.letter(length - 1) : "").append(", places");
+        for (int m = 0; m < guard.count(1); m++) {
+            seen.append(' ').append(guard.place(m, 0, -1)).append(guard.place(m, 0, 0)).append(guard.place(m, 0, 1));
+        }
+        seen.append(", log");
+        for (int i = 0; i < guard.count(3); i += 9) {
+            seen.append(' ').append(guard.log(i));
+        }
+        seen.append(", known");
+        for (int i = 0; guard.count(4) == 1 && i < Math.min(4, guard.count(0)); i++) {
+            for (int what = 0; what <= 3; what++) {
+                seen.append(' ').append(guard.known(i, 0, what)).append(' ').append(guard.known(i, 6, what));
+            }
+        }
+        return seen.toString();
     }
 
     static void end() {

@@ -15,7 +15,7 @@ public final class ConditionsTest {
         Asked.end();
     }
 
-    private static boolean holds(int relation, long x, long y) {
+    static boolean holds(int relation, long x, long y) {
         int unsigned = Long.compareUnsigned(x, y);
         boolean[] all = {x == y, x != y, unsigned < 0, unsigned <= 0, unsigned > 0, unsigned >= 0,
             x < y, x <= y, x > y, x >= y, (x & y) != 0};
@@ -23,13 +23,13 @@ public final class ConditionsTest {
     }
 
     /** The relation that holds where this one doesn't; 75 has none. */
-    private static int opposite(int relation) {
+    static int opposite(int relation) {
         int[] all = {66, 65, 70, 69, 68, 67, 74, 73, 72, 71};
         return all[relation - 65];
     }
 
     /** x.low, x.high, y.low, y.high where the relation holds, or null where it can't. */
-    private static long[] due(int relation, long[] x, long[] y, boolean same) {
+    static long[] due(int relation, long[] x, long[] y, boolean same) {
         long[] r = {x[0], x[1], y[0], y[1]};
         switch (relation) {
             case 65:
@@ -94,7 +94,7 @@ public final class ConditionsTest {
         }
     }
 
-    private static void ask(int relation, long[] x, long[] y, boolean same, long[] next, long[] jump) {
+    static void ask(int relation, long[] x, long[] y, boolean same, long[] next, long[] jump) {
         int src = same ? 5 : 6;
         Asked.Row row = new Asked.Row().range(5, x[0], x[1]);
         if (!same) {
@@ -117,11 +117,11 @@ public final class ConditionsTest {
         side(guard, what + ", other side", at + 3, src, jump);
     }
 
-    private static void hand(int relation, long[] x, long[] y, long[] next, long[] jump) {
+    static void hand(int relation, long[] x, long[] y, long[] next, long[] jump) {
         ask(relation, x, y, false, next, jump);
     }
 
-    private static long[] r(long... ends) {
+    static long[] r(long... ends) {
         return ends;
     }
 

@@ -23,6 +23,18 @@ public final class FormTest {
         return sort <= 11 || sort >= 32 && sort <= 43 || sort >= 65 && sort <= 75 || sort >= 96 && sort <= 103;
     }
 
+    /** FORM once more: of instruction i of a row with its maps. */
+    static boolean inForm(Asked.Row row, int i) {
+        int[] s = row.steps.get(i);
+        long to = i + 1L + s[3];
+        boolean jumps = s[0] >= 64 && s[0] <= 91;
+        return isSort(s[0]) && s[1] >= 0 && (s[1] <= 9 || s[1] == 10 && named10(s[0]))
+            && (!namesSource(s[0]) || s[2] >= 0 && s[2] <= 10)
+            && (!jumps || to >= 0 && to < row.size())
+            && (s[0] != 112 || s[4] >= 1 && s[4] <= 5)
+            && (s[0] != 114 || s[4] >= 0 && s[4] < row.maps.size());
+    }
+
     /** Whether check finds instruction 1, which stands between harmless ones, out of FORM. */
     private static void form(boolean right, int sort, int dst, int src, int off, int imm) {
         FilterGuard guard = new Asked.Row().map(1, 1, 1).move(0, 0).add(sort, dst, src, off, imm).exit().given();

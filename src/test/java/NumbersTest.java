@@ -66,7 +66,7 @@ public final class NumbersTest {
     }
 
     /** What's KNOWN behind an operation. */
-    private static long[] due(int sort, long xLow, long xHigh, long yLow, long yHigh) {
+    static long[] due(int sort, long xLow, long xHigh, long yLow, long yHigh) {
         boolean narrow = (sort & 32) != 0;
         int operation = sort & 15;
         long[] x = narrow ? cut(xLow, xHigh) : new long[] {xLow, xHigh};
@@ -167,7 +167,7 @@ public final class NumbersTest {
         Asked.due(what + ": gone", 1, guard.known(at + 1, 5, 3));
     }
 
-    private static void hand(int sort, long xLow, long xHigh, long yLow, long yHigh, long low, long high) {
+    static void hand(int sort, long xLow, long xHigh, long yLow, long yHigh, long low, long high) {
         ask(sort, new long[] {xLow, xHigh}, new long[] {yLow, yHigh}, new long[] {low, high});
     }
 

@@ -1264,7 +1264,6 @@ public final class FilterGuard {
                 int src = program.src[i];
                 if (src == dst) {
                     x.meet(y);
-                    y.set(x.low, x.high);
                 }
                 state.setNumber(src, y.low, y.high);
             }

@@ -6,7 +6,9 @@ public final class EdgesOfCallsTest {
         lookInNothing();
         lookFinds();
         lookIsAPointer();
+        lookInItsMapAlone();
         keysByAllBytes();
+        keysOfTheirOwnLength();
         putOverOne();
         putInFirstEmpty();
         putWithoutRoom();
@@ -128,6 +130,44 @@ public final class EdgesOfCallsTest {
         FilterGuard guard = look(row, 8).exit().runs("what was written is there", 1081);
         place(guard, 0, 1, 7, 70);
         place(guard, 1, 1, 8, 81);
+    }
+
+    /** Steps for one CALL on a map by its number, with key and value from where they stand on the STACK. */
+    private static Asked.Row onMap(Asked.Row row, int map, int call, int keyAt, int valueAt) {
+        return row.copy(2, 10).add(17, 2, 0, 0, keyAt).copy(3, 10).add(17, 3, 0, 0, valueAt).add(114, 1, 0, 0, map).call(call);
+    }
+
+    private static void lookInItsMapAlone() {
+        Asked.says("1 LOOK: MAP in 1, key at 2: a pointer to the value, or 0.");
+        for (int map = 0; map < 4; map++) {
+            for (int other = 0; other < 4; other++) {
+                Asked.Row row = row().map(1, 1, 16).map(1, 1, 16).map(1, 1, 16).map(1, 1, 16)
+                    .add(104, 10, 0, -1, 7).add(104, 10, 0, -2, 70);
+                onMap(onMap(row, other, 2, -1, -2), map, 1, -1, -2).add(82, 0, 0, 1, 0).exit().add(96, 0, 0, 0, 0).exit();
+                row.runs("LOOK in " + map + " for what's in " + other, map == other ? 70 : 0);
+                Asked.Row take = row().map(1, 1, 16).map(1, 1, 16).map(1, 1, 16).map(1, 1, 16)
+                    .add(104, 10, 0, -1, 7).add(104, 10, 0, -2, 70);
+                FilterGuard guard = onMap(onMap(take, other, 2, -1, -2), map, 3, -1, -2).exit()
+                    .runs("TAKE in " + map + " of what's in " + other, map == other ? 0 : 1);
+                Asked.due("it's there still", map == other ? 0 : 1, guard.place(other, 0, -1));
+            }
+        }
+    }
+
+    private static void keysOfTheirOwnLength() {
+        Asked.says("a key of 1 to 8 bytes");
+        // A long key that isn't found goes before a short one; and a key of 8 bytes is found by all of them.
+        Asked.Row row = row().map(8, 1, 2).map(1, 2, 2).add(107, 10, 0, -8, -1).add(105, 10, 0, -10, 0x0907);
+        onMap(onMap(onMap(row, 0, 3, -8, -8), 1, 2, -10, -10), 0, 3, -8, -8);
+        FilterGuard guard = onMap(row, 1, 2, -10, -10).exit().runs("the short key is found again", 0);
+        Asked.due("in its PLACE", 7, guard.place(1, 0, 0));
+        Asked.due("its value", 9, guard.place(1, 0, 2));
+        Asked.due("no other PLACE", 0, guard.place(1, 1, -1));
+        Asked.Row whole = row().map(8, 1, 2).add(107, 10, 0, -8, -1).add(104, 10, 0, -9, 1);
+        onMap(whole, 0, 2, -8, -9).add(104, 10, 0, -9, 2);
+        FilterGuard same = onMap(whole, 0, 2, -8, -9).exit().runs("all 8 bytes are the same", 0);
+        Asked.due("the same PLACE", 2, same.place(0, 0, 8));
+        Asked.due("no other one", 0, same.place(0, 1, -1));
     }
 
     private static void keysByAllBytes() {

@@ -175,6 +175,8 @@ public final class EdgesOfFormTest {
                 row().move(0, 1).move(6, 1).add(operation + 16, 6, any, any, 1).exit().passes(operation + 16 + ": src, off");
                 row().move(0, 1).move(6, 1).add(operation + 48, 6, any, any, 1).exit().passes(operation + 48 + ": src, off");
             }
+            row().move(0, 1).move(6, 1).add(12, 6, any, any, any).exit().passes("NEG: src, off, imm");
+            row().move(0, 1).move(6, 1).add(44, 6, any, any, any).exit().passes("NEG, 32 more: src, off, imm");
             row().move(0, 1).add(64, 0, any, 0, any).exit().passes("GO: src, imm");
             for (int relation = 65; relation <= 75; relation++) {
                 row().move(0, 1).add(relation, 0, 0, 0, any).exit().passes(relation + ": imm");

@@ -21,6 +21,7 @@ public final class EdgesOfMemoryTest {
         pointersInto();
         allOthers();
         keysAndValues();
+        keysOfEachMap();
         keysOfHeldNumbers();
         foretold();
         foretoldOfNumbers();
@@ -70,6 +71,10 @@ public final class EdgesOfMemoryTest {
         row().add(103, 10, 2, -8, 0).add(99, 7, 10, -8, 0).add(69, 1, 7, 0, 0).move(0, 1).exit().runs("END", 1);
         row().map(1, 1, 1).add(104, 10, 0, -1, 5).add(114, 6, 0, 0, 0).add(103, 10, 6, -16, 0).copy(2, 10)
             .add(17, 2, 0, 0, -1).add(99, 1, 10, -16, 0).call(3).exit().runs("MAP", 1);
+        for (int c = -64; c < 0; c += 8) {
+            row().add(103, 10, 10, c, 0).add(99, 7, 10, c, 0).add(104, 7, 0, c == -64 ? -1 : -64, 5)
+                .add(96, 0, 10, c == -64 ? -1 : -64, 0).exit().runs("STACK, HELD at " + c, 5);
+        }
         FilterGuard part = row().add(107, 10, 0, -8, 3).add(98, 7, 10, -8, 0).move(0, 1).exit().runs("4 of its bytes aren't it", 1);
         Asked.due("high", Asked.LOW_32, part.known(2, 7, 1));
     }
@@ -391,6 +396,35 @@ public final class EdgesOfMemoryTest {
         }
     }
 
+    private static void keysOfEachMap() {
+        Asked.says("Keys and values for CALLS are read like LOADS (each byte, FAULTS 4, 5;");
+        int[] keys = {2, 5, 1, 8};
+        int[] values = {9, 3, 17, 1};
+        for (int map = 0; map < 4; map++) {
+            Asked.Row row = row();
+            for (int m = 0; m < 4; m++) {
+                row.map(keys[m], values[m], 1);
+            }
+            for (int b = 1; b <= keys[map]; b++) {
+                row.add(104, 10, 0, -b, b);
+            }
+            for (int b = 1; b <= values[map]; b++) {
+                row.add(104, 10, 0, -32 - b, b);
+            }
+            int at = row.size();
+            row.copy(2, 10).add(17, 2, 0, 0, -keys[map]).copy(3, 10).add(17, 3, 0, 0, -32 - values[map])
+                .add(114, 1, 0, 0, map).call(2).exit();
+            row.runs("key and value of MAP " + map, 0);
+            row.steps.get(at + 1)[4]++;
+            row.fails("key of MAP " + map + " behind the STACK", 4, at + 5);
+            row.steps.get(at + 1)[4] -= 2;
+            row.fails("key of MAP " + map + " with a byte that's NONE", 5, at + 5);
+            row.steps.get(at + 1)[4]++;
+            row.steps.get(at + 3)[4]++;
+            row.fails("value of MAP " + map + " with a byte that's NONE", 5, at + 5);
+        }
+    }
+
     private static void keysOfHeldNumbers() {
         Asked.says("a NUMBER's HELD bytes are right).");
         for (int c = -16; c <= -8; c++) {
@@ -444,6 +478,10 @@ public final class EdgesOfMemoryTest {
         Asked.due("low of ALL", Asked.LEAST, ends.known(9, 6, 0));
         Asked.due("high of ALL", Asked.GREATEST, ends.known(9, 6, 1));
         Asked.due("high of a CONST", Asked.LEAST, ends.known(9, 7, 1));
+        FilterGuard held = row().add(107, 10, 0, -64, 3).move(6, 1).move(7, 1).move(0, 0).exit().passes("what the STACK HOLDS");
+        for (int i = 0; i < 4; i++) {
+            Asked.due("is no register", 0, held.known(i, 0, 2));
+        }
         FilterGuard below = row().call(5).copy(8, 0).move(6, -5).add(91, 8, 0, 1, 1).move(6, -9).exit().passes("both below 0");
         Asked.due("least low", -9, below.known(5, 6, 0));
         Asked.due("greatest high", -5, below.known(5, 6, 1));

@@ -85,6 +85,7 @@ public final class EdgesOfNumbersTest {
         all(1, LEAST, 0, -1, GREATEST);
         behind(1, -3, 4, -5, 6, -8, 10);
         behind(1, 4, 4, -5, 6, -1, 10);
+        all(1, 0, 0x5555555555555555L, 0x5555555555555555L, 0x5555555555555555L);
     }
 
     private static void differences() {
@@ -97,6 +98,7 @@ public final class EdgesOfNumbersTest {
         all(2, LEAST, 0, 1, 1);
         behind(2, -3, 4, -5, 6, -9, 9);
         behind(2, 0, 5, 0, 5, -5, 5);
+        all(2, 0xAAAAAAAAAAAAAAAAL, 0, 0x5555555555555555L, 0x5555555555555555L);
     }
 
     private static void products() {
@@ -172,6 +174,8 @@ public final class EdgesOfNumbersTest {
         Asked.says("AND: one low isn't below 0: 0 .. that high (both: the lesser); else ALL.");
         behind(6, 0, 9, -1, 5, 0, 9);
         behind(6, -1, 9, 0, 5, 0, 5);
+        behind(6, -1, 3, 0, 5, 0, 5);
+        behind(6, 0, 5, -1, 3, 0, 5);
         behind(6, 0, 9, 0, 5, 0, 5);
         behind(6, 0, 5, 0, 9, 0, 5);
         behind(6, 3, 9, 4, 9, 0, 9);
@@ -260,6 +264,8 @@ public final class EdgesOfNumbersTest {
         Asked.says("SIGNED RIGHT: y CONST: both ends shifted; else as RIGHT.");
         behind(11, -8, 7, 1, 1, -4, 3);
         behind(11, -7, 7, 1, 1, -4, 3);
+        behind(11, -8, -3, 1, 1, -4, -2);
+        behind(11, LEAST, -1, 63, 63, -1, -1);
         behind(11, LEAST, GREATEST, 63, 63, -1, 0);
         behind(11, LEAST, GREATEST, 64, 64, LEAST, GREATEST);
         behind(11, LEAST, GREATEST, 1, 1, LEAST / 2, GREATEST / 2);

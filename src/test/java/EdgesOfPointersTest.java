@@ -291,6 +291,12 @@ public final class EdgesOfPointersTest {
         // What one side knows of a tag, the other one doesn't.
         look().copy(6, 0).call(5).copy(7, 0).add(91, 7, 0, 2, 1).add(81, 6, 0, 0, 0).exit().add(99, 0, 6, 0, 0).exit()
             .fails("on a side that waits", 3, 12);
+        Asked.Row taken = look().copy(6, 0).copy(2, 9).add(114, 1, 0, 0, 0).call(1).copy(7, 0).call(5)
+            .add(91, 0, 0, 1, 1).exit();
+        int first = taken.size();
+        taken.add(82, 7, 0, 2, 0).move(0, 0).exit().add(99, 0, 7, 0, 0).exit().passes("on a side that waited, its own");
+        taken.steps.get(first + 3)[2] = 6;
+        taken.fails("on a side that waited, another LOOK's", 3, first + 3);
     }
 
     private static void maybeAndOthers() {

@@ -262,6 +262,26 @@ public final class EdgesOfPromisesTest {
         Asked.due("gone", 7 + 3, guard.count(7));
         Asked.due("no NUMBER of before", 0, guard.known(0, 7, 2));
         Asked.due("EXIT twice", 2, guard.known(6, 0, 3));
+        FilterGuard used = row().move(0, 5).move(6, 7).add(103, 10, 0, -8, 0).add(104, 10, 0, -16, 0).add(17, 0, 0, 0, 1)
+            .add(83, 0, 0, -6, 9).exit().fails("a loop from 0, without an end", 8, 4);
+        String[] unknown = {"a register", "another register", "what was HELD", "DATA", "LENGTH"};
+        int[][] steps = {{113, 0, 0, 0, 0}, {0, 0, 6, 0, 0}, {99, 0, 10, -8, 0}, {96, 0, 10, -16, 0}, {96, 0, 1, 0, 0}};
+        int[] due = {2, 2, 5, 5, 4};
+        for (int n = 0; n < 5; n++) {
+            used.clear();
+            used.add(steps[n][0], steps[n][1], steps[n][2], steps[n][3], steps[n][4]);
+            used.add(113, 0, 0, 0, 0);
+            Asked.due(unknown[n] + " of before isn't KNOWN", due[n], used.check());
+        }
+        used.clear();
+        row().move(7, 1).move(0, 0).exit().giveTo(used);
+        used.check();
+        for (int what = 0; what <= 2; what++) {
+            Asked.due("FORETOLD of before", 0, used.known(0, 0, what));
+            Asked.due("FORETOLD of before", 0, used.known(0, 6, what));
+            Asked.due("FORETOLD of before", 0, used.known(1, 0, what));
+            Asked.due("FORETOLD of before", 0, used.known(1, 6, what));
+        }
     }
 
     private static void clears() {

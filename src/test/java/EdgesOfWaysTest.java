@@ -56,6 +56,12 @@ public final class EdgesOfWaysTest {
         guard.clear();
         row().copy(7, 1).add(17, 7, 0, 0, 1).move(0, 0).add(69, 7, 2, 1, 0).add(96, 0, 1, 0, 0).exit().giveTo(guard);
         Asked.due("1 byte is known", 0, guard.check());
+        guard.clear();
+        row().copy(7, 1).add(17, 7, 0, 0, 4).move(0, 0).add(68, 7, 2, 1, 0).exit().copy(0, 9).exit().giveTo(guard);
+        Asked.due("4 bytes are known at its FAULT", 2, guard.check());
+        guard.clear();
+        row().add(96, 0, 1, 0, 0).exit().giveTo(guard);
+        Asked.due("but not in the next CHECKING", 4, guard.check());
     }
 
     private static void stackAtFirst() {

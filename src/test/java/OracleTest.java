@@ -1,8 +1,8 @@
 import java.util.Random;
 
 /**
- * Promises 4, 13 and 14: programs that grow by chance, mostly by what passes, and what CHECKING says
- * of each of them, beside a second telling of it.
+ * Promises 4, 9, 13 and 14: programs that grow by chance, mostly by what passes, and what CHECKING
+ * says of each of them, beside a second telling of it; those that pass are run beside the model.
  */
 public final class OracleTest {
     private static final int[] TELLING = {0, 1, -1, 2, 3, 4, 7, 8, 9, 16, 20, 31, 32, 33, 63, 64, 65, 255, 256, 4095, 4096,
@@ -157,11 +157,25 @@ public final class OracleTest {
         return due;
     }
 
+    private void compareRuns(String what, Asked.Row row, Oracle oracle) {
+        FilterGuard guard = row.given();
+        guard.check();
+        Model model = new Model(row);
+        model.seed = random.nextLong();
+        guard.seed(model.seed);
+        for (int n = 0; n < 4; n++) {
+            RunTest.feed(random, guard, model, any(0, 1, 4, 8, 9, 20, 33, 40));
+            long due = model.run((i, registers) -> RunTest.foretold(what, oracle.foretold[i], i, registers));
+            RunTest.compare(what, guard, model, due);
+        }
+    }
+
     private void compareKnown(String what, Asked.Row row) {
         Oracle oracle = new Oracle(row);
         if (oracle.check() != 0) {
             return;
         }
+        compareRuns(what, row, oracle);
         for (int i = 0; i < row.size(); i++) {
             FilterGuard guard = row.given();
             guard.check();

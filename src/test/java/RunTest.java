@@ -51,21 +51,24 @@ public final class RunTest {
         model.seed = random.nextLong();
         guard.seed(model.seed);
         for (int n = 0; n < 4; n++) {
-            feed(guard, model, n == 0 ? LENGTH - 1 : 20 + random.nextInt(20));
-            long due = model.run((i, registers) -> {
-                for (int r = 0; r < 11; r++) {
-                    if (registers[r] != null && registers[r].isNumber()) {
-                        long[] k = known[i][r];
-                        long v = registers[r].number;
-                        if (k[2] != 1 || v < k[0] || v > k[1]) {
-                            Asked.due(what + ": register " + r + " at " + i + " in " + k[0] + " .. " + k[1], 1, 0);
-                        }
-                    }
-                }
-            });
+            feed(random, guard, model, n == 0 ? LENGTH - 1 : 20 + random.nextInt(20));
+            long due = model.run((i, registers) -> foretold(what, known[i], i, registers));
             compare(what, guard, model, due);
         }
         return true;
+    }
+
+    /** Each register that is a NUMBER lies between what's FORETOLD: low, high, 1. */
+    static void foretold(String what, long[][] known, int i, Model.Value[] registers) {
+        for (int r = 0; r < 11; r++) {
+            if (registers[r] != null && registers[r].isNumber()) {
+                long[] k = known[r];
+                long v = registers[r].number;
+                if (k[2] != 1 || v < k[0] || v > k[1]) {
+                    Asked.due(what + ": register " + r + " at " + i + " in " + k[0] + " .. " + k[1], 1, 0);
+                }
+            }
+        }
     }
 
     /** An object answers for 512 calls alone, so that several are asked. */
@@ -89,7 +92,8 @@ public final class RunTest {
         return known;
     }
 
-    private void feed(FilterGuard guard, Model model, int length) {
+    /** A new PACKET of chance, of 40 bytes at most, for both. */
+    static void feed(Random random, FilterGuard guard, Model model, int length) {
         guard.end(guard.count(2));
         byte[] bytes = new byte[40];
         random.nextBytes(bytes);
@@ -104,7 +108,8 @@ public final class RunTest {
         model.packet = java.util.Arrays.copyOf(bytes, length);
     }
 
-    private void compare(String what, FilterGuard guard, Model model, long due) {
+    /** A run of the class must do what the model's has done. */
+    static void compare(String what, FilterGuard guard, Model model, long due) {
         Asked.due(what + ": run", due, guard.run());
         Asked.due(what + ": done", model.done, guard.count(8));
         Asked.due(what + ": strays", 0, guard.count(9));

@@ -791,8 +791,10 @@ public final class FilterGuard {
         }
 
         void copyEntry(int to, int from) {
+            // An entry may be copied to itself, and to set it takes its tag away.
+            int kept = tag[from];
             set(to, kind[from], map[from], low[from], high[from]);
-            tag[to] = tag[from];
+            tag[to] = kept;
         }
 
         boolean isNone(int entry) {

@@ -17,6 +17,7 @@ public final class EdgesOfPointersTest {
         maybeUnequal();
         allWithItsTag();
         othersKeepTheirTag();
+        movedToItself();
         maybeAndOthers();
         packetBelowEnd();
         packetNotAboveEnd();
@@ -297,6 +298,31 @@ public final class EdgesOfPointersTest {
         taken.add(82, 7, 0, 2, 0).move(0, 0).exit().add(99, 0, 7, 0, 0).exit().passes("on a side that waited, its own");
         taken.steps.get(first + 3)[2] = 6;
         taken.fails("on a side that waited, another LOOK's", 3, first + 3);
+    }
+
+    /** A MOVE of a register to itself leaves all that's KNOWN of it, its tag too. */
+    private static void movedToItself() {
+        Asked.says("POINTERS: 0 MOVES all.");
+        look().copy(0, 0).copy(6, 0).add(81, 6, 0, 2, 0).add(99, 3, 0, 0, 0).add(99, 0, 6, 0, 0).exit()
+            .runs("MAYBE, and then a copy", 0);
+        look().copy(6, 0).copy(0, 0).add(81, 6, 0, 2, 0).add(99, 3, 0, 0, 0).add(99, 0, 6, 0, 0).exit()
+            .runs("a copy, and then MAYBE: the copy is asked", 0);
+        look().copy(6, 0).copy(0, 0).add(81, 0, 0, 2, 0).add(99, 3, 6, 0, 0).add(99, 0, 0, 0, 0).exit()
+            .runs("a copy, and then MAYBE: it is asked itself", 0);
+        FilterGuard held = look().add(103, 10, 0, -16, 0).copy(0, 0).add(82, 0, 0, 2, 0).add(99, 7, 10, -16, 0).exit()
+            .move(0, 0).exit().runs("HELD, and then MAYBE", 0);
+        Asked.due("what was HELD is a NUMBER", 1, held.known(9, 7, 2) + held.known(10, 7, 2));
+        // Two LOOKS' MAYBES, each moved to itself, are still two.
+        Asked.Row two = look().copy(0, 0).copy(6, 0).copy(2, 9).add(114, 1, 0, 0, 0).call(1).copy(0, 0).add(81, 0, 0, 2, 0);
+        two.add(99, 3, 6, 0, 0).move(0, 1).exit().fails("another LOOK's", 3, two.size() - 3);
+        row().copy(1, 1).copy(2, 2).move(0, 1).add(69, 1, 2, 0, 0).exit().runs("PACKET and END", 1);
+        row().copy(6, 10).add(17, 6, 0, 0, -8).copy(6, 6).add(104, 6, 0, 7, 5).add(96, 0, 10, -1, 0).exit().runs("STACK", 5);
+        value(1).copy(6, 6).add(96, 0, 6, 0, 0).exit().runs("VALUE", 5);
+        row().map(1, 1, 1).map(2, 1, 1).add(105, 10, 0, -2, 0).copy(2, 10).add(17, 2, 0, 0, -2).add(114, 1, 0, 0, 1)
+            .copy(1, 1).call(3).exit().runs("MAP", 1);
+        FilterGuard number = row().range(6, -3, 9).copy(6, 6).move(0, 0).exit().passes("NUMBER");
+        Asked.due("low", -3, number.known(number.count(0) - 1, 6, 0));
+        Asked.due("high", 9, number.known(number.count(0) - 1, 6, 1));
     }
 
     private static void maybeAndOthers() {

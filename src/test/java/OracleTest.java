@@ -10,6 +10,8 @@ public final class OracleTest {
 
     private final Random random;
     private final int[] faults;
+    /** The registers that steps choose among, or null for all; with few, LOOKS are many too. */
+    private int[] few = null;
 
     private OracleTest(Random random, int[] faults) {
         this.random = random;
@@ -21,6 +23,11 @@ public final class OracleTest {
         Random random = new Random(11);
         for (int n = 0; n < 1500; n++) {
             new OracleTest(random, faults).grow("program " + n);
+        }
+        for (int n = 0; n < 1500; n++) {
+            OracleTest crowded = new OracleTest(random, faults);
+            crowded.few = new int[] {0, 6, 7, 0, 6, 7, 3, 10};
+            crowded.grow("crowded program " + n);
         }
         for (int n = 0; n < 4000; n++) {
             new OracleTest(random, faults).scatter("row " + n);
@@ -42,7 +49,30 @@ public final class OracleTest {
         return random.nextInt(6) == 0 ? random.nextInt() : any(TELLING);
     }
 
+    private int someRegister() {
+        return few == null ? random.nextInt(11) : any(few);
+    }
+
+    /** Register 0 is a MAYBE of a MAP, with its key there or not, and has a copy somewhere or not. */
+    private void beginWithLook(Asked.Row row) {
+        row.map(1, any(1, 2, 4, 8, 9, 16), 1 + random.nextInt(2));
+        for (int c = -64; c < -16; c += 8) {
+            row.add(107, 10, 0, c, random.nextInt(3));
+        }
+        if (random.nextInt(3) > 0) {
+            row.copy(2, 10).add(17, 2, 0, 0, -56).copy(3, 10).add(17, 3, 0, 0, -48).add(114, 1, 0, 0, 0).call(2);
+        }
+        for (int looks = random.nextInt(2); looks >= 0; looks--) {
+            row.copy(2, 10).add(17, 2, 0, 0, any(-56, -64)).add(114, 1, 0, 0, 0).call(1);
+            row.steps.add(any(0, 1) == 0 ? new int[] {0, any(6, 7), 0, 0, 0} : new int[] {103, 10, 0, any(-8, -16, -24), 0});
+        }
+    }
+
     private void begin(Asked.Row row) {
+        if (few != null) {
+            beginWithLook(row);
+            return;
+        }
         int maps = random.nextInt(3);
         for (int m = 0; m < maps; m++) {
             row.map(1 + random.nextInt(8), 1 + random.nextInt(20), 1 + random.nextInt(3));
@@ -97,9 +127,12 @@ public final class OracleTest {
     }
 
     private int[] someStep(Asked.Row row, int at) {
-        int dst = random.nextInt(11);
-        int src = random.nextInt(11);
+        int dst = someRegister();
+        int src = random.nextInt(8) == 0 ? dst : someRegister();
         int off = any(0, 0, -8, -16, -64, random.nextInt(80) - 72, random.nextInt(20), someImm());
+        if (few != null && random.nextInt(2) == 0) {
+            return crowdedStep(row, at, dst, src);
+        }
         switch (random.nextInt(11)) {
             case 0: return new int[] {0, dst, src, off, 0};
             case 1: return new int[] {any(1, 2, 17, 18), dst, src, off, someImm()};
@@ -111,6 +144,20 @@ public final class OracleTest {
             case 8: return new int[] {100 + random.nextInt(8), any(10, 7, dst), src, off, someImm()};
             case 9: return new int[] {any(64, 112, 112, 112, 113, 81, 82), dst, src, jump(row, at), random.nextInt(6)};
             default: return new int[] {114, any(1, dst), src, off, random.nextInt(4) == 0 ? someImm() : random.nextInt(2)};
+        }
+    }
+
+    /** What MAYBES and what was HELD are met by: moves, STORES and LOADS of eights and parts of them, and 0. */
+    private int[] crowdedStep(Asked.Row row, int at, int dst, int src) {
+        int eight = any(-8, -16, -24);
+        switch (random.nextInt(7)) {
+            case 0: return new int[] {0, dst, src, 0, 0};
+            case 1: return new int[] {103, 10, src, eight, 0};
+            case 2: return new int[] {99, dst, 10, eight, 0};
+            case 3: return new int[] {any(81, 82), dst, src, jump(row, at), 0};
+            case 4: return new int[] {any(100, 101, 102, 104, 105, 106), 10, src, eight + random.nextInt(8), someImm()};
+            case 5: return new int[] {96 + random.nextInt(4), dst, any(10, src), any(0, 1, eight + random.nextInt(8)), 0};
+            default: return new int[] {100 + random.nextInt(8), src, dst, random.nextInt(9), someImm()};
         }
     }
 
@@ -159,7 +206,9 @@ public final class OracleTest {
 
     private void compareRuns(String what, Asked.Row row, Oracle oracle) {
         FilterGuard guard = row.given();
-        guard.check();
+        if (guard.check() != 0) {
+            return;
+        }
         Model model = new Model(row);
         model.seed = random.nextLong();
         guard.seed(model.seed);
@@ -178,7 +227,9 @@ public final class OracleTest {
         compareRuns(what, row, oracle);
         for (int i = 0; i < row.size(); i++) {
             FilterGuard guard = row.given();
-            guard.check();
+            if (guard.check() != 0) {
+                return;
+            }
             Asked.due(what + ": gone " + i, oracle.often[i], guard.known(i, -1, 3));
             for (int r = 0; r < 11; r++) {
                 for (int told = 0; told < 3; told++) {

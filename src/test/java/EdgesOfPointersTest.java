@@ -270,6 +270,8 @@ public final class EdgesOfPointersTest {
         }
         FilterGuard zero = look().copy(6, 0).add(103, 10, 0, -16, 0).add(82, 0, 0, 2, 0).add(99, 7, 10, -16, 0).exit()
             .move(0, 0).exit().runs("the NUMBER 0", 0);
+        look().add(107, 10, 0, -16, -1).add(103, 10, 0, -16, 0).add(82, 0, 0, 2, 0).add(98, 0, 10, -14, 0).exit()
+            .move(0, 1).exit().runs("the bytes of the NUMBER 0 that's HELD", 0);
         Asked.due("a register", 1, zero.known(9, 6, 2));
         Asked.due("what was HELD", 1, zero.known(10, 7, 2));
         Asked.due("low", 0, zero.known(10, 7, 0));

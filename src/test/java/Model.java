@@ -165,6 +165,8 @@ final class Model {
         int from = Math.toIntExact(base.number + s[3]);
         boolean whole = base.memory == stack && bytes == 8 && from % 8 == 0;
         if (whole && !what.isNumber()) {
+            // All that can be read of it byte by byte is a LOOK's 0.
+            java.util.Arrays.fill(stack, from, from + 8, (byte) 0);
             held[from / 8] = what;
             return;
         }
